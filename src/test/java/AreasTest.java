@@ -181,6 +181,11 @@ public final class AreasTest {
         rooms.draw(7, 3, 7, 7, 50);
         Check.same("the door of five", rooms.partingGap(0, 0, 15, 0, 0), 5);
         rooms.draw(7, 2, 7, 2, 50);
+        AreaPicker steps = new AreaPicker();
+        steps.draw(5, 0, 10, 9, 55);
+        steps.draw(11, 0, 15, 9, 60);
+        Check.same("the way is 0", steps.partingGap(0, 0, 15, 0, 5), 0);
+        Check.same("the way is 0, from between", steps.partingGap(7, 0, 15, 0, 5), -1);
         Check.same("the door of six", rooms.partingGap(0, 0, 15, 0, 0), -1);
     }
 

@@ -80,6 +80,14 @@ public final class HashTest {
         p.fill(33);
         Given.type(p, "~!0");
         Check.same("digest with text", p.digest(), hashOf(p, "~!0"));
+        for (int other = 38; other <= 63; other++) {
+            AreaPicker two = new AreaPicker();
+            two.draw(1, 0, 1, 0, other);
+            two.draw(3, 0, 3, 9, 100 - other);
+            Check.same("digest with the shade " + other, two.digest(), hashOf(two, ""));
+            two.draw(0, 0, 0, 2, other);
+            Check.same("digest with a corner of " + other, two.digest(), hashOf(two, ""));
+        }
         AreaPicker small = new AreaPicker();
         small.draw(0, 0, 0, 0, 0);
         for (int soft = 0; soft <= 4; soft++) {

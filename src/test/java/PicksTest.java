@@ -8,7 +8,9 @@ public final class PicksTest {
         setKindChanges();
         reorderMoves();
         cleanRemoves();
+        cleanLeavesNothingBehind();
         picksKeepTheirLevels();
+        softAtTheCorners();
         Check.close();
     }
 
@@ -201,6 +203,41 @@ public final class PicksTest {
         Check.same("picks after undo", p.count(0), 5);
         columns(p, "after undo", 0, 1, 2, 3, 4);
         Check.same("out after undo", p.picked(4, 7), 0);
+    }
+
+    private static void cleanLeavesNothingBehind() {
+        AreaPicker p = twoPicks(1);
+        p.pick(3, 3, 0, 0, 0, 3);
+        p.toggle(0);
+        p.setKind(2, 1);
+        Check.same("clean", p.clean(), 1);
+        Check.same("picks that are in", p.count(1), 2);
+        Check.same("picks over a cell", p.cell(3, 3, 2), 2);
+        Check.same("level of the mask", p.cell(2, 2, 1), 25);
+        p.toggle(0);
+        p.toggle(1);
+        Check.same("clean of all", p.clean(), 2);
+        Check.same("no pick is in", p.count(1), 0);
+        Check.same("no pick over a cell", p.cell(3, 3, 2), 0);
+        Check.same("no mask", p.count(4), 0);
+        Check.same("nothing to clean", p.clean(), 0);
+        Check.refused("toggle(0) then", p, Check.INDEX, () -> p.toggle(0));
+    }
+
+    private static void softAtTheCorners() {
+        int[][] corners = {{0, 0, 1, 1}, {15, 0, 14, 1}, {0, 9, 1, 8}, {15, 9, 14, 8}};
+        for (int[] c : corners) {
+            AreaPicker p = new AreaPicker();
+            p.draw(c[2], c[3], c[2], c[3], 10);
+            p.pick(c[2], c[3], 0, 0, 0, 10);
+            Check.same("beside (" + c[0] + ", " + c[1] + ")", p.level(0, c[0], c[1]), 50);
+            Check.same("cells", p.picked(0, 10), 9);
+            p.draw(c[0], c[1], c[0], c[1], 20);
+            p.pick(c[0], c[1], 0, 0, 0, 20);
+            Check.same("in (" + c[0] + ", " + c[1] + ")", p.level(1, c[0], c[1]), 100);
+            Check.same("cells from there", p.picked(1, 10), 9);
+            Check.same("levels from there", p.picked(1, 11), 100 + 3 * 66 + 5 * 33);
+        }
     }
 
     private static void picksKeepTheirLevels() {

@@ -81,6 +81,13 @@ public final class PropertiesTest {
         Check.same("their sum", all.count(6), 4950 + 60 * 50);
         all.draw(0, 0, 0, 0, 99);
         Check.same("all but 0", all.count(7), 99);
+        int[] single = {0, 1, 49, 50, 51, 63, 64, 99};
+        for (int shade : single) {
+            all.draw(0, 0, 15, 9, shade);
+            Check.same("only the shade " + shade, all.count(7), 1);
+            all.draw(3, 3, 3, 3, 99 - shade);
+            Check.same("two shades, " + shade, all.count(7), 2);
+        }
     }
 
     /** Which levels make an edge, and where. */

@@ -66,6 +66,13 @@ public final class TextsTest {
         Check.same("17 shades with .", errorOf("0:................."), 18);
         Check.same("17 shades in the second row", errorOf("0:1/1:01234567890123456"), 22);
         Check.same("two errors", errorOf("x:y"), 0);
+        AreaPicker p = new AreaPicker();
+        Given.type(p, "0:123:45");
+        p.clearBuffer();
+        Given.type(p, "0:12");
+        Check.same("what was cleared is no error", p.firstError(), 4);
+        Check.same("nor is it loaded", p.load(), 2);
+        Check.same("cell(2, 0, 0)", p.cell(2, 0, 0), 50);
     }
 
     private static int errorOf(String text) {
