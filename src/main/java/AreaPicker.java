@@ -835,13 +835,17 @@ public final class AreaPicker {
             }
         }
 
+        /** Finds the area among the alike cells; returns the number of its cells. */
         private int spread(int first, int gap) {
             measureSquares();
             width = gap;
             while (width > 0 && !liesInSquare(first)) {
                 width--;
             }
-            joinSquares(first);
+            joinSquaresOver(first);
+            for (int head = 0; head < queued && head < CELLS; head++) {
+                joinAround(queue[head]);
+            }
             return coverSquares();
         }
 
@@ -872,7 +876,7 @@ public final class AreaPicker {
             return false;
         }
 
-        private void joinSquares(int first) {
+        private void joinSquaresOver(int first) {
             clear(joined);
             queued = 0;
             int x = first % COLUMNS;
@@ -881,9 +885,6 @@ public final class AreaPicker {
                 for (int column = x - width; column <= x; column++) {
                     join(column, row);
                 }
-            }
-            for (int head = 0; head < queued && head < CELLS; head++) {
-                joinAround(queue[head]);
             }
         }
 

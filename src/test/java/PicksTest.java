@@ -169,11 +169,25 @@ public final class PicksTest {
         Check.refused("reorder(0, 5)", p, Check.INDEX, () -> p.reorder(0, 5));
         Check.refused("reorder(-1, 0)", p, Check.INDEX, () -> p.reorder(-1, 0));
         Check.refused("reorder(0, -1)", p, Check.INDEX, () -> p.reorder(0, -1));
+        reorderTwelve();
         AreaPicker q = twoPicks(0);
         Check.same("two that replace: those with another level", q.reorder(0, 1), 47);
         Check.same("and back", q.reorder(1, 0), 47);
         q.toggle(1);
         Check.same("one is out: nothing changes", q.reorder(0, 1), 0);
+    }
+
+    private static void reorderTwelve() {
+        AreaPicker p = new AreaPicker();
+        for (int x = 0; x < 12; x++) {
+            p.pick(x, 0, 0, 0, 0, 1);
+        }
+        Check.same("reorder(0, 11)", p.reorder(0, 11), 0);
+        columns(p, "after reorder(0, 11)", 1, 2, 3, 4, 5, 6, 7, 8, 9, 10, 11, 0);
+        Check.same("reorder(11, 10)", p.reorder(11, 10), 0);
+        Check.same("reorder(10, 0)", p.reorder(10, 0), 0);
+        columns(p, "after all", 0, 1, 2, 3, 4, 5, 6, 7, 8, 9, 10, 11);
+        Check.refused("reorder(0, 12)", p, Check.INDEX, () -> p.reorder(0, 12));
     }
 
     private static void columns(AreaPicker p, String when, int... due) {
@@ -214,6 +228,14 @@ public final class PicksTest {
         Check.same("picks that are in", p.count(1), 2);
         Check.same("picks over a cell", p.cell(3, 3, 2), 2);
         Check.same("level of the mask", p.cell(2, 2, 1), 25);
+        p.reorder(0, 1);
+        p.pick(12, 8, 99, 0, 0, 0);
+        p.pick(3, 3, 0, 0, 0, 30);
+        p.toggle(0);
+        p.toggle(1);
+        Check.same("clean of the first two", p.clean(), 2);
+        Check.same("the last one replaces", p.cell(12, 8, 1), 0);
+        Check.same("picks over a far cell", p.cell(12, 8, 2), 1);
         p.toggle(0);
         p.toggle(1);
         Check.same("clean of all", p.clean(), 2);
