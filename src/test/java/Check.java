@@ -4,17 +4,27 @@ final class Check {
     static final String ARGUMENT = "IllegalArgumentException";
     static final String STATE = "IllegalStateException";
 
+    private static String subject = "";
     private static int asked = 0;
     private static int wrong = 0;
 
     private Check() {
     }
 
+    /** What the checks from here on are about; it is printed with each wrong answer. */
+    static void about(String text) {
+        subject = text;
+    }
+
+    static int asked() {
+        return asked;
+    }
+
     static void same(String call, long got, long due) {
         asked++;
         if (got != due) {
             wrong++;
-            System.out.println(call + " answered " + got + ", due is " + due);
+            System.out.println(subject + call + " answered " + got + ", due is " + due);
         }
     }
 
@@ -22,7 +32,7 @@ final class Check {
         asked++;
         if (!got.equals(due)) {
             wrong++;
-            System.out.println(call + " answered " + got + ", due is " + due);
+            System.out.println(subject + call + " answered " + got + ", due is " + due);
         }
     }
 
