@@ -225,7 +225,24 @@ final class BoundsOfAreas {
         Check.same("a passage's end with 0", passage.leastLikeness(0, 0, 5, 0, 0, 1), 0);
         Check.same("its area with 33 is a square, without the end", passage.areaOf(0, 0, 33, 0, 1), 4);
         Check.same("the square with 33", passage.leastLikeness(0, 0, 1, 1, 0, 1), 33);
+        fromASingleCell();
         neverNone();
+    }
+
+    /** A cell that no other one is like is reached from itself with 0; the others with 40 and more. */
+    private static void fromASingleCell() {
+        for (int cell = 0; cell < 160; cell += 53) {
+            int x = cell % 16;
+            int y = cell / 16;
+            AreaPicker spot = Given.spot(x, y);
+            for (int gap = 0; gap <= 5; gap++) {
+                for (int way = 0; way <= 1; way++) {
+                    String asked = ", from (" + x + ", " + y + ") with the way " + way + " and the gap " + gap;
+                    Check.same("to itself alone" + asked, spot.leastLikeness(x, y, x, y, way, gap), 0);
+                    Check.same("to another one" + asked, spot.leastLikeness(x, y, 8, 5, way, gap), 40);
+                }
+            }
+        }
     }
 
     /** With 99 all cells are alike, so that the whole picture is the area, whatever the gap. */
